@@ -888,15 +888,6 @@ public final class PolytopeBench {
             count++;
         }
 
-        boolean hasFrom(int first, Plane plane) {
-            for (int u = first; u < count; u++) {
-                if (a[u] == plane.a && b[u] == plane.b && c[u] == plane.c && d[u] == plane.d) {
-                    return true;
-                }
-            }
-            return false;
-        }
-
         long sideOf(int wall, Points points, int i) {
             return a[wall] * points.x[i] + b[wall] * points.y[i] + c[wall] * points.z[i]
                     - d[wall] * points.w[i];
@@ -1122,7 +1113,7 @@ public final class PolytopeBench {
                 known |= 1L << base[i];
             }
             for (int i = 0; i < 4; i++) {
-                addWall(body, base[i], base[i + 1 & 3], base[i + 2 & 3], 0);
+                addWall(body, base[i], base[i + 1 & 3], base[i + 2 & 3]);
             }
             for (int i = 0; i < body.points.count; i++) {
                 if (!hasBit(known, i)) {
@@ -1161,11 +1152,8 @@ public final class PolytopeBench {
             return dimension;
         }
 
-        /**
-         * Adds the wall through three points, if it is not one of those from a number on. The points known so far
-         * are on one side of it: this tells which one is below.
-         */
-        private void addWall(Body body, int i, int j, int k, int from) {
+        /** Adds the wall through three points. The points known so far tell which side of it is below. */
+        private void addWall(Body body, int i, int j, int k) {
             if (!plane.setThrough(body.points, i, j, k)) {
                 return;
             }
@@ -1181,12 +1169,14 @@ public final class PolytopeBench {
             if (isUpsideDown) {
                 plane.set(-plane.a, -plane.b, -plane.c, -plane.d);
             }
-            if (!body.walls.hasFrom(from, plane)) {
-                body.walls.add(plane, on);
-            }
+            body.walls.add(plane, on);
         }
 
-        /** Makes the hull greater by a point: the walls that it sees go, and others from it to their rim come. */
+        /**
+         * Makes the hull greater by a point: the walls that it sees go, and others from it to their rim come. No two of
+         * these are in one plane: this would be the plane of an old wall with two edges of the rim, which would be
+         * neither seen nor unseen.
+         */
         private void grow(Body body, int point) {
             Walls walls = body.walls;
             int old = walls.count;
@@ -1207,7 +1197,7 @@ public final class PolytopeBench {
                     // Two walls that have two points in common have an edge in common.
                     long common = walls.on[u] & walls.on[v];
                     if (side[v] < 0 && Long.bitCount(common) >= 2) {
-                        addWall(body, lowestBit(common), lowestBit(common & common - 1), point, old);
+                        addWall(body, lowestBit(common), lowestBit(common & common - 1), point);
                     }
                 }
             }

@@ -9,7 +9,13 @@ public final class AgreementTest {
     private static final int CALLS = 512;
     private static final String[] MAKING = {"addPoint", "addPoint", "addPoint", "addPoint", "addPoint", "addPoint",
         "make", "make", "shift", "sum", "sum", "mirror", "mirror", "cut", "cut", "cut", "cut", "cut", "clear"};
+    private static final String[] GROWING = {"addPoint", "addPoint", "addPoint", "addPoint", "addPoint", "addPoint",
+        "addPoint", "addPoint", "addPoint", "addPoint", "addPoint", "mirror", "cut", "cut"};
+    /** Bodies of all kinds, great numbers, many points, and few places with many points in a plane. */
+    private enum Mode { MIXED, WILD, RICH, TIGHT }
+
     private long seed;
+    private Mode mode;
 
     private AgreementTest(long seed) {
         this.seed = seed;
@@ -38,15 +44,17 @@ public final class AgreementTest {
             }
         }
         methods.sort(Comparator.comparing(Method::getName));
-        boolean isWild = next(8) == 0;
+        int chosen = next(8);
+        mode = chosen == 0 ? Mode.WILD : chosen == 1 ? Mode.RICH : chosen == 2 ? Mode.TIGHT : Mode.MIXED;
         StringBuilder log = new StringBuilder();
         for (int call = 0; call < CALLS; call++) {
             Method method = methods.get(next(methods.size()));
-            if (next(3) == 0) {
-                String name = MAKING[next(MAKING.length)];
+            boolean isRich = mode == Mode.RICH;
+            if (next(3) == 0 || isRich && isMaking(method)) {
+                String name = isRich ? GROWING[next(GROWING.length)] : MAKING[next(MAKING.length)];
                 method = methods.stream().filter(m -> m.getName().equals(name)).findFirst().get();
             }
-            Object[] values = values(method, plain, isWild);
+            Object[] values = values(method, plain);
             String got = answer(bench, method, values);
             Method other = PlainBench.class.getMethod(method.getName(), method.getParameterTypes());
             String want = answer(plain, other, values);
@@ -59,6 +67,10 @@ public final class AgreementTest {
                 System.exit(1);
             }
         }
+    }
+
+    private static boolean isMaking(Method method) {
+        return List.of("clear", "make", "sum", "mirror", "cut", "shift").contains(method.getName());
     }
 
     private static String answer(Object bench, Method method, Object[] values) throws Exception {
@@ -79,7 +91,7 @@ public final class AgreementTest {
     }
 
     /** Values that mostly are in their range, and at times just beyond it or far off. */
-    private Object[] values(Method method, PlainBench plain, boolean isWild) {
+    private Object[] values(Method method, PlainBench plain) {
         String name = method.getName();
         Class<?>[] types = method.getParameterTypes();
         Object[] values = new Object[types.length];
@@ -92,7 +104,7 @@ public final class AgreementTest {
             } else if (i == 0) {
                 values[i] = shelf;
             } else {
-                values[i] = number(name, i, shelf, plain, isWild);
+                values[i] = number(name, i, shelf, plain);
             }
         }
         return values;
@@ -100,7 +112,7 @@ public final class AgreementTest {
 
     private int shelf() {
         int chosen = next(120);
-        return chosen == 0 ? -1 : chosen == 1 ? 4 : chosen % 4;
+        return chosen == 0 ? -1 : chosen == 1 ? 4 : mode == Mode.RICH ? chosen % 16 / 11 : chosen % 4;
     }
 
     private char letter(String name) {
@@ -114,15 +126,16 @@ public final class AgreementTest {
         return next(60) == 0 ? "cosxyzwabcdneXN\u0000\uffff".charAt(next(17)) : letters.charAt(next(letters.length()));
     }
 
-    private int number(String name, int place, int shelf, PlainBench plain, boolean isWild) {
+    private int number(String name, int place, int shelf, PlainBench plain) {
         if (next(150) == 0) {
             int[] odd = {7, -7, 10, -10, 100, -100, 1001, -1001, Integer.MAX_VALUE, Integer.MIN_VALUE, -1, 60, 0};
             return odd[next(odd.length)];
         }
         boolean isSolid = shelf >= 0 && shelf < 4 && plain.dimension(shelf) == 3;
+        boolean isWild = mode == Mode.WILD;
         switch (name) {
             case "addPoint":
-                return spread(isWild ? 6 : 1 + next(6));
+                return spread(mode == Mode.TIGHT ? 1 : mode == Mode.MIXED ? 1 + next(6) : 6);
             case "make":
                 return 1 + next(isWild ? 6 : 2);
             case "shift":

@@ -243,7 +243,9 @@ public final class PromiseTest {
         due(60, bench.corners(0));
         refused(FULL, () -> bench.addPoint(0, 0, 0, 0));
         refused(KIND, () -> bench.addPoint(0, 0, 0, 7));
-        due(60, bench.addPoint(0, bench.corner(0, 30, 'x'), bench.corner(0, 30, 'y'), bench.corner(0, 30, 'z')));
+        for (int i = 0; i < 60; i++) {
+            due(60, bench.addPoint(0, bench.corner(0, i, 'x'), bench.corner(0, i, 'y'), bench.corner(0, i, 'z')));
+        }
         due(1, bench.addPoint(1, 0, 0, 0));
         due(true, bench.isSound());
         // The same with points on a line.
@@ -457,6 +459,7 @@ public final class PromiseTest {
         due(true, bench.walls(0) > 60);
         due(2, bench.has(0, 0, 0, 0));
         refused(FULL, () -> bench.mirror(1, 0));
+        mirrorOfSixty();
         start(7);
         bench.make(0, 'c', 3);
         bench.make(1, 's', 5);
@@ -468,6 +471,33 @@ public final class PromiseTest {
         due(true, bench.walls(0) <= 60);
         refused(SIZE, () -> bench.mirror(0, 0));
         refused(SIZE, () -> bench.mirror(2, 0));
+    }
+
+    /** 60 walls make 60 points. */
+    private static void mirrorOfSixty() {
+        int[][] round = new int[96][];
+        int place = 0;
+        for (int i = 0; i < 13 * 13 * 13; i++) {
+            int[] p = {i / 169 - 6, i / 13 % 13 - 6, i % 13 - 6};
+            if (p[0] * p[0] + p[1] * p[1] + p[2] * p[2] == 41) {
+                round[place] = p;
+                place++;
+            }
+        }
+        due(96, place);
+        boolean isFound = false;
+        for (int step = 5; step < 96 && !isFound; step += 6) {
+            start(7);
+            for (int i = 0; i < 60 && !isFound; i++) {
+                int[] p = round[i * step % 96];
+                bench.addPoint(0, p[0], p[1], p[2]);
+                isFound = bench.dimension(0) == 3 && bench.walls(0) == 60 && bench.has(0, 0, 0, 0) == 2;
+            }
+        }
+        due(true, isFound);
+        due(60, bench.mirror(1, 0));
+        due(bench.corners(0), bench.walls(1));
+        due(true, bench.isSound());
     }
 
     private static void cut() {
@@ -976,7 +1006,21 @@ public final class PromiseTest {
         bench.cut(3, 3, 0, 0, 1, 5);
         bench.cut(3, 3, 0, 0, -1, 5);
         due(37 * 41 * 41, bench.count(3, 4));
+        // Just 70000 whole points, and more.
+        bench.make(3, 'c', 5);
+        for (int i = 0; i < 3; i++) {
+            bench.sum(3, 3, 3);
+        }
+        bench.cut(3, 3, 1, 0, 0, 9);
+        bench.cut(3, 3, 0, 1, 0, -1);
+        bench.cut(2, 3, 0, 0, 1, -5);
+        bench.cut(3, 3, 0, 0, 1, -6);
+        due(70000, bench.count(3, 1));
+        due(48 * 38 * 33, bench.inner(3, 1));
+        refused(SIZE, () -> bench.count(2, 1));
+        refused(SIZE, () -> bench.inner(2, 1));
         bench.clear(3);
+        bench.make(2, 'c', 6);
     }
 
     private static void inner() {
@@ -1055,6 +1099,17 @@ public final class PromiseTest {
         due(true, bench.isReflexive(0));
         bench.shift(0, -6, 0, 0);
         due(false, bench.isReflexive(0));
+        // One wall alone that is too far.
+        for (int way = 0; way < 6; way++) {
+            bench.make(0, 'c', 2);
+            int[][] ways = {{-1, 0, 0}, {0, -1, 0}, {0, 0, -1}, {0, 0, 1}, {0, 1, 0}, {1, 0, 0}};
+            for (int u = 0; u < 6; u++) {
+                bench.cut(0, 0, ways[u][0], ways[u][1], ways[u][2], u == way ? 2 : 1);
+            }
+            due(false, bench.isReflexive(0));
+            bench.cut(0, 0, ways[way][0], ways[way][1], ways[way][2], 1);
+            due(true, bench.isReflexive(0));
+        }
         shelves(s -> bench.isReflexive(s), true);
     }
 
