@@ -441,7 +441,8 @@ public final class PromiseTest {
                 + " 0-1 0-2 0-3 0-4 1-2 1-3 1-5 2-4 2-5 3-4 3-5 4-5", told(bench, 1));
         due(8, bench.mirror(1, 1));
         due(true, told(bench, 0).equals(told(bench, 1)));
-        due(6, bench.points(2) + bench.mirror(2, 1));
+        due(6, bench.mirror(2, 1));
+        due(6, bench.points(2));
         shelves(s -> bench.mirror(s, 0), false);
         shelves(s -> bench.mirror(0, s), true);
         refused(SHELF, () -> bench.mirror(4, 3));
@@ -604,7 +605,7 @@ public final class PromiseTest {
         due(0, bench.points(0));
         // A wall between whole numbers.
         bench.make(0, 'o', 1);
-        due(5, bench.cut(0, 0, 2, 0, 0, -1) - bench.points(3));
+        due(5, bench.cut(0, 0, 2, 0, 0, -1));
         due(2, bench.corner(0, 4, 'w'));
         due(4, bench.cut(0, 0, -2, 0, 0, 1));
         due(2, bench.dimension(0));
@@ -654,13 +655,12 @@ public final class PromiseTest {
         start(12);
         bench.make(0, 's', 1);
         bench.cut(0, 0, 0, 0, 2, 1);
-        due(" (0 0 0 1) (0 0 1 2) (0 1 0 1) (0 1 1 2) (1 0 0 1) (1 0 1 2)".replace("(0 1 0 1) (0 1 1 2)",
-                "(0 1 1 2) (0 1 0 1)").replace("(1 0 0 1) (1 0 1 2)", "(1 0 1 2) (1 0 0 1)"),
-                told(bench, 0).substring(0, 60));
-        due(1, bench.corner(0, 2, 'y'));
-        due(2, bench.corner(0, 2, 'w'));
-        due(0, bench.corner(0, 3, 'z'));
-        due(1, bench.corner(0, 4, 'x'));
+        int[][] due = {{0, 0, 0, 1}, {0, 0, 1, 2}, {0, 1, 1, 2}, {0, 1, 0, 1}, {1, 0, 1, 2}, {1, 0, 0, 1}};
+        for (int c = 0; c < 6; c++) {
+            for (int i = 0; i < 4; i++) {
+                due(due[c][i], bench.corner(0, c, "xyzw".charAt(i)));
+            }
+        }
         shelves(s -> bench.corner(s, 0, 'x'), true);
         refused(SHELF, () -> bench.corner(-1, 6, 'a'));
         refused(FLAT, () -> bench.corner(1, 6, 'a'));
@@ -837,7 +837,7 @@ public final class PromiseTest {
         refused(SHELF, () -> bench.areAlike(2, 4));
         refused(FLAT, () -> bench.areAlike(0, 2));
         refused(FLAT, () -> bench.areAlike(2, 0));
-        // A body and its own picture in a looking glass, which no turning leads to: a simplex with corners cut off.
+        // A body and its own picture in a looking glass.
         bench.make(0, 'c', 2);
         bench.cut(0, 0, 1, 1, 1, 5);
         bench.cut(0, 0, 1, 1, -1, 5);
