@@ -1,24 +1,5 @@
-import java.util.NoSuchElementException;
-
 /** Each promise of the document by itself: ordinary calls, edges and wrong calls. */
-public final class PromiseTest {
-    private static final Class<? extends Exception> SHELF = IndexOutOfBoundsException.class;
-    private static final Class<? extends Exception> KIND = IllegalArgumentException.class;
-    private static final Class<? extends Exception> FULL = IllegalStateException.class;
-    private static final Class<? extends Exception> SIZE = ArithmeticException.class;
-    private static final Class<? extends Exception> FLAT = UnsupportedOperationException.class;
-    private static final Class<? extends Exception> NONE = NoSuchElementException.class;
-    private static final int LOW = Integer.MIN_VALUE;
-    private static final int TOP = Integer.MAX_VALUE;
-
-    private static PolytopeBench bench;
-    private static int promise;
-    private static int wrong;
-
-    private interface Call {
-        Object answer();
-    }
-
+public final class PromiseTest extends Checks {
     public static void main(String[] args) {
         newObject();
         clear();
@@ -57,93 +38,11 @@ public final class PromiseTest {
         meanDegree();
         middle();
         isSound();
-        System.out.println("PromiseTest: " + (wrong == 0 ? "all promises hold" : wrong + " answers are not as due"));
-        if (wrong > 0) {
-            System.exit(1);
-        }
+        finish("PromiseTest");
     }
 
-    private static void start(int number) {
-        promise = number;
-        bench = new PolytopeBench();
-    }
-
-    private static void due(Object want, Object got) {
-        if (!want.equals(got)) {
-            wrong++;
-            StackTraceElement at = new Throwable().getStackTrace()[1];
-            System.out.println("promise " + promise + ", line " + at.getLineNumber() + ": " + got + ", due is " + want);
-        }
-    }
-
-    /** Due is an exception of just this class, and nothing may have changed. */
-    private static void refused(Class<? extends Exception> want, Call call) {
-        String before = all(bench);
-        Object got;
-        try {
-            got = call.answer();
-        } catch (RuntimeException e) {
-            got = e.getClass();
-        }
-        StackTraceElement at = new Throwable().getStackTrace()[1];
-        if (got != want) {
-            wrong++;
-            System.out.println("promise " + promise + ", line " + at.getLineNumber() + ": " + got + ", due is " + want);
-        }
-        if (!before.equals(all(bench))) {
-            wrong++;
-            System.out.println("promise " + promise + ", line " + at.getLineNumber() + ": the call changed something");
-        }
-    }
-
-    /** All that can be told of the shelves. */
-    private static String all(PolytopeBench x) {
-        StringBuilder told = new StringBuilder();
-        for (int s = 0; s < 4; s++) {
-            told.append(x.points(s)).append(' ').append(x.dimension(s)).append(told(x, s)).append('\n');
-        }
-        return told.toString();
-    }
-
-    private static String told(PolytopeBench x, int s) {
-        StringBuilder told = new StringBuilder();
-        if (x.dimension(s) < 3) {
-            return "";
-        }
-        for (int i = 0; i < x.corners(s); i++) {
-            told.append(" (");
-            for (char c : "xyzw".toCharArray()) {
-                told.append(x.corner(s, i, c)).append(c == 'w' ? ')' : ' ');
-            }
-        }
-        for (int u = 0; u < x.walls(s); u++) {
-            told.append(" [");
-            for (char c : "abcd".toCharArray()) {
-                told.append(x.wall(s, u, c)).append(c == 'd' ? ']' : ' ');
-            }
-        }
-        for (int e = 0; e < x.edges(s); e++) {
-            told.append(' ').append(x.edgeEnd(s, e, false)).append('-').append(x.edgeEnd(s, e, true));
-        }
-        return told.toString();
-    }
-
-    /** Wrong shelves for a call, and a shelf with a body of a lesser dimension. */
-    private static void shelves(java.util.function.IntFunction<Object> call, boolean isForSolids) {
-        for (int shelf : new int[] {-1, 4, LOW, TOP}) {
-            refused(SHELF, () -> call.apply(shelf));
-        }
-        if (isForSolids) {
-            PolytopeBench kept = bench;
-            bench = new PolytopeBench();
-            int[][] few = {{1, 2, 3}, {2, 2, 3}, {3, 2, 3}, {1, 5, 3}, {1, 6, 3}};
-            for (int[] p : few) {
-                refused(FLAT, () -> call.apply(2));
-                bench.addPoint(2, p[0], p[1], p[2]);
-            }
-            refused(FLAT, () -> call.apply(2));
-            bench = kept;
-        }
+    private static void start(int promise) {
+        start("promise " + promise);
     }
 
     /** The simplex of the corners 0, 0, 0 and 1, 2, 3 and 3, 1, 2 and 2, 3, 1 on shelf 0. */
