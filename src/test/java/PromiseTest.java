@@ -375,28 +375,11 @@ public final class PromiseTest extends Checks {
 
     /** 60 walls make 60 points. */
     private static void mirrorOfSixty() {
-        int[][] round = new int[96][];
-        int place = 0;
-        for (int i = 0; i < 13 * 13 * 13; i++) {
-            int[] p = {i / 169 - 6, i / 13 % 13 - 6, i % 13 - 6};
-            if (p[0] * p[0] + p[1] * p[1] + p[2] * p[2] == 41) {
-                round[place] = p;
-                place++;
-            }
-        }
-        due(96, place);
-        boolean isFound = false;
-        for (int step = 5; step < 96 && !isFound; step += 6) {
-            start(7);
-            for (int i = 0; i < 60 && !isFound; i++) {
-                int[] p = round[i * step % 96];
-                bench.addPoint(0, p[0], p[1], p[2]);
-                isFound = bench.dimension(0) == 3 && bench.walls(0) == 60 && bench.has(0, 0, 0, 0) == 2;
-            }
-        }
-        due(true, isFound);
+        start(7);
+        makeRound(bench, 0, 31, 0, 36);
+        due(60, bench.walls(0));
         due(60, bench.mirror(1, 0));
-        due(bench.corners(0), bench.walls(1));
+        due(36, bench.walls(1));
         due(true, bench.isSound());
     }
 

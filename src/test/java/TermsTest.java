@@ -7,9 +7,18 @@ public final class TermsTest extends Checks {
     private static final int[] CUT_X_2001 = {'c', 6, 4, 4, 9, -13, 9, 2, -3, 28, 6, -3, 9, 4};
     private static final int[] CUT_W_2000 = {'c', 1, 8, 8, 6, 3, 9, -8, 8, 2, 9, -4, -7, 4};
     private static final int[] CUT_W_2001 = {'o', 1, -7, 8, -5, 0, 9, 9, 7, 0, 9, 3, -8, -4};
+    /** 60 points, all corners, and no four of them on a wall: no body on a shelf has more walls and edges. */
+    private static final int[] GREATEST = {
+        -2, 3, -5, -5, 2, 5, 5, 0, 4, 4, 4, -3, 4, -3, 4, 4, 2, 4, 2, 6, -1, -5, 3, -3, 1, 2, -6, 0, 5, 4, -3, -5, 3,
+        0, -4, -5, 1, -6, 2, -2, -1, 6, -3, 4, -4, -4, 4, -3, -5, -3, 3, 6, -2, 0, 3, -4, 4, -6, 1, 3, 3, -2, -5, 5,
+        4, 0, -1, -4, -5, -1, -6, 1, -2, -5, 4, -6, 2, 3, 2, -1, -6, -4, 1, -5, -5, 4, -1, 2, 1, 6, -1, 6, -2, -4, -5,
+        -1, -4, -3, -4, -3, 4, 4, -4, 4, 3, 4, -5, 1, 5, 3, -3, -6, 2, 0, 1, -3, 6, 6, 1, 2, -1, -4, 5, 4, 5, 0, -2,
+        -3, -5, 1, 4, -5, 3, -4, -4, 5, -4, -1, -5, 1, -4, 3, -5, 3, 3, 5, 3, -3, 5, 2, 5, 4, -2, 3, 1, -6, 0, -5, -4,
+        -4, 5, 0, -4, 0, 5, -5, -3, -1, -5, -4, 0, 5, 1, -3, 1, 5, 4, 6, -2, 1};
 
     public static void main(String[] args) {
         shelvesApart();
+        greatestBody();
         dimensions();
         lesserBodies();
         shortestNumbers();
@@ -38,6 +47,7 @@ public final class TermsTest extends Checks {
         polynomial();
         leastCommonW();
         reflexive();
+        alikeByNumbersAlone();
         finish("TermsTest");
     }
 
@@ -61,6 +71,43 @@ public final class TermsTest extends Checks {
         due(6, bench.points(0));
         due(4, bench.corner(2, 5, 'x'));
         due(4, bench.corner(3, 5, 'x'));
+    }
+
+    private static void greatestBody() {
+        start("At most 60 points can be on a shelf: all of them corners, with three on each wall", x -> {
+            addPoints(x, 0, GREATEST);
+            for (int i = 59; i >= 0; i--) {
+                x.addPoint(1, GREATEST[3 * i + 1], -GREATEST[3 * i + 2], GREATEST[3 * i]);
+            }
+            x.shift(1, 5, 6, -6);
+        });
+        for (int s = 0; s < 2; s++) {
+            due(60, bench.points(s));
+            due(60, bench.corners(s));
+            due(116, bench.walls(s));
+            due(174, bench.edges(s));
+            due(348f / 60f, bench.meanDegree(s));
+            for (int u = 0; u < 116; u++) {
+                due(3, bench.sides(s, u));
+            }
+            int ends = 0;
+            for (int i = 0; i < 60; i++) {
+                ends += bench.degree(s, i);
+            }
+            due(348, ends);
+        }
+        due(true, bench.areAlike(0, 0));
+        due(true, bench.areAlike(0, 1));
+        due(true, bench.areAlike(1, 0));
+        due(bench.diameter(0), bench.diameter(1));
+        due(bench.volume(0, 'n'), bench.volumeAnew(1, 'n'));
+        due(bench.inner(0, 1), bench.inner(1, 1));
+        due(60, bench.cut(2, 0, 1, 1, 1, 99));
+        due(told(bench, 0), told(bench, 2));
+        due(true, bench.isSound());
+        refusedAndForgotten(FULL, () -> bench.mirror(2, 0));
+        refusedAndForgotten(FULL, () -> bench.sum(2, 0, 1));
+        refusedAndForgotten(FULL, () -> bench.addPoint(0, 6, 6, 6));
     }
 
     private static void dimensions() {
@@ -381,40 +428,71 @@ public final class TermsTest extends Checks {
 
     /**
      * Adds three points far from each other, which are in the plane x - 871201 y - 872522 z = -1000000000, moved by
-     * some along x. A fourth point makes a body of the dimension 3, at the side that is told: 1 above, -1 below, 0 none.
+     * some along x; the axes are turned as told. A fourth point makes a body of the dimension 3, at the side that is
+     * told: 1 above, -1 below, 0 none.
      */
-    private static void makeFarPlane(PolytopeBench x, int side, int more) {
-        x.addPoint(0, 2, -4, -3);
-        shiftFar(x, 0, 660, 660, -660);
-        x.addPoint(0, 0, -4, -4);
-        shiftFar(x, 0, 660, -660, 660);
-        x.addPoint(0, 1, -3, -4);
+    private static void makeFarPlane(PolytopeBench x, int turn, int side, int more) {
+        addTurned(x, 0, turn, 2, -4, -3);
+        shiftTurned(x, turn, 660, 660, -660);
+        addTurned(x, 0, turn, 0, -4, -4);
+        shiftTurned(x, turn, 660, -660, 660);
+        addTurned(x, 0, turn, 1, -3, -4);
         if (side != 0) {
-            x.addPoint(0, 0, side > 0 ? -6 : 0, side > 0 ? -6 : 0);
+            addTurned(x, 0, turn, 0, side > 0 ? -6 : 0, side > 0 ? -6 : 0);
         }
-        shiftFar(x, 0, -620 + more, 596, 558);
+        shiftTurned(x, turn, -620 + more, 596, 558);
+    }
+
+    /** Tells three numbers of which the first is that of another axis. */
+    private static int[] turned(int turn, int... numbers) {
+        int[] found = new int[3];
+        for (int i = 0; i < 3; i++) {
+            found[(i + turn) % 3] = numbers[i];
+        }
+        return found;
+    }
+
+    private static int addTurned(PolytopeBench x, int shelf, int turn, int... numbers) {
+        int[] p = turned(turn, numbers);
+        return x.addPoint(shelf, p[0], p[1], p[2]);
+    }
+
+    private static void shiftTurned(PolytopeBench x, int turn, int... numbers) {
+        int[] by = turned(turn, numbers);
+        shiftFar(x, 0, by[0], by[1], by[2]);
+    }
+
+    private static int shiftOnce(int shelf, int turn, int... numbers) {
+        int[] by = turned(turn, numbers);
+        return bench.shift(shelf, by[0], by[1], by[2]);
+    }
+
+    private static boolean hasFarWall(int shelf, int turn, int sign, int d) {
+        int[] n = turned(turn, sign, -sign * 871201, -sign * 872522);
+        return hasWall(shelf, n[0], n[1], n[2], d);
     }
 
     private static void wallsToTheirSize() {
-        for (int side = -1; side <= 1; side += 2) {
-            int s = side;
-            start("None of a wall beyond 1000000000: shift", x -> makeFarPlane(x, s, 0));
+        for (int way = 0; way < 6; way++) {
+            int turn = way % 3;
+            int s = way < 3 ? 1 : -1;
+            start("None of a wall beyond 1000000000: shift", x -> makeFarPlane(x, turn, s, 0));
             due(3, bench.dimension(0));
-            due(true, hasWall(0, -s, s * 871201, s * 872522, s * 1000000000));
-            refused(SIZE, () -> bench.shift(0, -1, 0, 0));
-            refused(SIZE, () -> bench.shift(0, 0, 1, 0));
-            refused(SIZE, () -> bench.shift(0, 6, 6, 6));
+            due(true, hasFarWall(0, turn, -s, s * 1000000000));
+            refused(SIZE, () -> shiftOnce(0, turn, -1, 0, 0));
+            refused(SIZE, () -> shiftOnce(0, turn, 0, 1, 0));
+            refused(SIZE, () -> shiftOnce(0, turn, 6, 6, 6));
             due(4, bench.shift(0, 0, 0, 0));
-            due(4, bench.shift(0, 1, 0, 0));
-            due(true, hasWall(0, -s, s * 871201, s * 872522, s * 999999999));
-            due(4, bench.shift(0, -1, 0, 0));
-            refused(SIZE, () -> bench.shift(0, -1, 0, 0));
-            due(4, bench.shift(0, 0, 0, -1));
+            due(4, shiftOnce(0, turn, 1, 0, 0));
+            due(true, hasFarWall(0, turn, -s, s * 999999999));
+            due(4, shiftOnce(0, turn, -1, 0, 0));
+            refused(SIZE, () -> shiftOnce(0, turn, -1, 0, 0));
+            due(4, shiftOnce(0, turn, 0, 0, -1));
             due(true, bench.isSound());
-            refusedAndForgotten(SIZE, () -> bench.shift(0, -1, 0, 0));
+            refusedAndForgotten(SIZE, () -> shiftOnce(0, turn, -1, 0, 0));
         }
         // Walls are told of bodies of the dimension 3 alone: points in a plane go on.
-        start("All walls of a body of the dimension 3", x -> makeFarPlane(x, 0, 0));
+        start("All walls of a body of the dimension 3", x -> makeFarPlane(x, 0, 0, 0));
         due(2, bench.dimension(0));
         due(3, bench.shift(0, -1, 0, 0));
         due(3, bench.shift(0, -6, 6, 6));
@@ -422,45 +500,54 @@ public final class TermsTest extends Checks {
     }
 
     private static void addPointToWallSize() {
-        start("None of a wall beyond 1000000000: addPoint", x -> makeFarPlane(x, 0, 0));
-        due(4, bench.addPoint(0, 0, 0, 0));
-        due(3, bench.dimension(0));
-        due(true, hasWall(0, -1, 871201, 872522, 1000000000));
-        start("None of a wall beyond 1000000000: addPoint", x -> makeFarPlane(x, 0, -1));
-        due(3, bench.points(0));
-        due(2, bench.dimension(0));
-        refusedAndForgotten(SIZE, () -> bench.addPoint(0, 0, 0, 0));
-        refusedAndForgotten(SIZE, () -> bench.addPoint(0, 6, -6, 6));
-        refusedAndForgotten(KIND, () -> bench.addPoint(0, 0, 7, 0));
-        refusedAndForgotten(SHELF, () -> bench.addPoint(4, 0, 0, 0));
-        refused(SIZE, () -> bench.addPoint(0, 1, 2, 3));
-        due(3, bench.points(0));
-        due(3, bench.shift(0, 1, 0, 0));
-        due(4, bench.addPoint(0, 1, 2, 3));
+        for (int axis = 0; axis < 3; axis++) {
+            int turn = axis;
+            start("None of a wall beyond 1000000000: addPoint", x -> makeFarPlane(x, turn, 0, 0));
+            due(4, bench.addPoint(0, 0, 0, 0));
+            due(3, bench.dimension(0));
+            due(true, hasFarWall(0, turn, -1, 1000000000));
+            start("None of a wall beyond 1000000000: addPoint", x -> makeFarPlane(x, turn, 0, -1));
+            due(3, bench.points(0));
+            due(2, bench.dimension(0));
+            refusedAndForgotten(SIZE, () -> bench.addPoint(0, 0, 0, 0));
+            refusedAndForgotten(SIZE, () -> bench.addPoint(0, 6, -6, 6));
+            refusedAndForgotten(KIND, () -> bench.addPoint(0, 0, 7, 0));
+            refusedAndForgotten(SHELF, () -> bench.addPoint(4, 0, 0, 0));
+            refused(SIZE, () -> bench.addPoint(0, 1, 2, 3));
+            due(3, bench.points(0));
+            due(3, shiftOnce(0, turn, 1, 0, 0));
+            due(4, bench.addPoint(0, 1, 2, 3));
+        }
     }
 
     private static void sumToWallSize() {
-        start("None of a wall beyond 1000000000: sum", x -> {
-            makeFarPlane(x, 1, 0);
-            addPoints(x, 1, 0, 0, 0, 1, 0, 0, 0, -1, 0, 0, 0, -1);
-        });
-        bench.sum(2, 0, 1);
-        due(true, hasWall(2, -1, 871201, 872522, 1000000000));
-        bench.shift(1, -1, 0, 0);
-        refused(SIZE, () -> bench.sum(2, 0, 1));
-        refused(SIZE, () -> bench.sum(0, 0, 1));
-        refused(SIZE, () -> bench.sum(1, 1, 0));
-        start("None of a wall beyond 1000000000: sum", x -> {
-            makeFarPlane(x, -1, 0);
-            x.make(1, 's', 1);
-            x.shift(1, -1, 0, 0);
-        });
-        bench.sum(2, 0, 1);
-        due(true, hasWall(2, 1, -871201, -872522, -1000000000));
-        bench.shift(1, -1, 0, 0);
-        refused(SIZE, () -> bench.sum(2, 0, 1));
-        refused(SIZE, () -> bench.sum(0, 1, 0));
-        refused(SIZE, () -> bench.sum(3, 0, 0));
+        for (int axis = 0; axis < 3; axis++) {
+            int turn = axis;
+            start("None of a wall beyond 1000000000: sum", x -> {
+                makeFarPlane(x, turn, 1, 0);
+                addTurned(x, 1, turn, 0, 0, 0);
+                addTurned(x, 1, turn, 1, 0, 0);
+                addTurned(x, 1, turn, 0, -1, 0);
+                addTurned(x, 1, turn, 0, 0, -1);
+            });
+            bench.sum(2, 0, 1);
+            due(true, hasFarWall(2, turn, -1, 1000000000));
+            shiftOnce(1, turn, -1, 0, 0);
+            refused(SIZE, () -> bench.sum(2, 0, 1));
+            refused(SIZE, () -> bench.sum(0, 0, 1));
+            refused(SIZE, () -> bench.sum(1, 1, 0));
+            start("None of a wall beyond 1000000000: sum", x -> {
+                makeFarPlane(x, turn, -1, 0);
+                x.make(1, 's', 1);
+            });
+            shiftOnce(1, turn, -1, 0, 0);
+            bench.sum(2, 0, 1);
+            due(true, hasFarWall(2, turn, 1, -1000000000));
+            shiftOnce(1, turn, -1, 0, 0);
+            refused(SIZE, () -> bench.sum(2, 0, 1));
+            refused(SIZE, () -> bench.sum(0, 1, 0));
+            refused(SIZE, () -> bench.sum(3, 0, 0));
+        }
     }
 
     private static void order() {
@@ -1015,6 +1102,46 @@ public final class TermsTest extends Checks {
                 }
             }
         }
+    }
+
+    private static void alikeByNumbersAlone() {
+        // Going round the one of three sides twice is going round that of six sides once: but corners have to match.
+        int[] three = {3, 0, -3, 3, 0, -3};
+        int[] six = {2, 1, 1, 2, -1, 1, -2, -1, -1, -2, 1, -1};
+        start("alike: corners can be matched, not one with two", x -> {
+            for (int z = 0; z < 2; z++) {
+                for (int i = 0; i + 1 < 6; i += 2) {
+                    x.addPoint(0, three[i], three[i + 1], z);
+                }
+                for (int i = 0; i + 1 < 12; i += 2) {
+                    x.addPoint(1, six[i], six[i + 1], z);
+                }
+            }
+        });
+        due(6, bench.corners(0));
+        due(12, bench.corners(1));
+        due(false, bench.areAlike(0, 1));
+        due(false, bench.areAlike(1, 0));
+        bench.shift(0, 0, 0, 1);
+        bench.addPoint(0, 0, 0, 6);
+        due(7, bench.corners(0));
+        due(false, bench.areAlike(0, 1));
+        // As many corners, walls and edges, but a wall of five corners in one alone.
+        start("alike: all walls match", x -> {
+            x.make(0, 'c', 2);
+            x.cut(0, 0, 1, 1, 1, 5);
+            x.cut(1, 0, 1, 1, -1, 5);
+            x.cut(2, 0, -1, -1, 1, 5);
+            x.cut(3, 0, -1, -1, -1, 5);
+        });
+        due(bench.edges(1), bench.edges(2));
+        due(bench.corners(1), bench.corners(3));
+        due(bench.walls(1), bench.walls(3));
+        due(false, bench.areAlike(1, 2));
+        due(false, bench.areAlike(1, 3));
+        due(false, bench.areAlike(3, 2));
+        due(false, bench.areAlike(2, 3));
+        due(true, bench.areAlike(2, 2));
     }
 
     /** Adds a point that is farther off than addPoint allows. */
