@@ -11,11 +11,13 @@ public final class AgreementTest {
         "make", "make", "shift", "sum", "sum", "mirror", "mirror", "cut", "cut", "cut", "cut", "cut", "clear"};
     private static final String[] GROWING = {"addPoint", "addPoint", "addPoint", "addPoint", "addPoint", "addPoint",
         "addPoint", "addPoint", "addPoint", "addPoint", "addPoint", "mirror", "cut", "cut"};
-    /** Bodies of all kinds, great numbers, many points, and few places with many points in a plane. */
-    private enum Mode { MIXED, WILD, RICH, TIGHT }
+    /** Bodies of all kinds, great numbers, many points, few places with many points in a plane, and places far off. */
+    private enum Mode { MIXED, WILD, RICH, TIGHT, FAR }
 
     private long seed;
     private Mode mode;
+    /** Where shelves are shifted to, for long, so that their points come to be far from each other. */
+    private final int[] course = new int[3];
 
     private AgreementTest(long seed) {
         this.seed = seed;
@@ -45,13 +47,18 @@ public final class AgreementTest {
         }
         methods.sort(Comparator.comparing(Method::getName));
         int chosen = next(8);
-        mode = chosen == 0 ? Mode.WILD : chosen == 1 ? Mode.RICH : chosen == 2 ? Mode.TIGHT : Mode.MIXED;
+        mode = chosen == 0 ? Mode.WILD : chosen == 1 ? Mode.RICH : chosen == 2 ? Mode.TIGHT
+                : chosen == 3 ? Mode.FAR : Mode.MIXED;
         StringBuilder log = new StringBuilder();
         for (int call = 0; call < CALLS; call++) {
             Method method = methods.get(next(methods.size()));
             boolean isRich = mode == Mode.RICH;
             if (next(3) == 0 || isRich && isMaking(method)) {
                 String name = isRich ? GROWING[next(GROWING.length)] : MAKING[next(MAKING.length)];
+                method = methods.stream().filter(m -> m.getName().equals(name)).findFirst().get();
+            }
+            if (mode == Mode.FAR && next(8) > 0) {
+                String name = next(16) == 0 ? "addPoint" : "shift";
                 method = methods.stream().filter(m -> m.getName().equals(name)).findFirst().get();
             }
             Object[] values = values(method, plain);
@@ -110,9 +117,17 @@ public final class AgreementTest {
         return values;
     }
 
+    private int course(int axis) {
+        if (next(80) == 0) {
+            course[axis] = 6 - 12 * next(2);
+        }
+        return course[axis];
+    }
+
     private int shelf() {
-        int chosen = next(120);
-        return chosen == 0 ? -1 : chosen == 1 ? 4 : mode == Mode.RICH ? chosen % 16 / 11 : chosen % 4;
+        int chosen = next(mode == Mode.FAR ? 12 * 120 : 120);
+        return chosen == 0 ? -1 : chosen == 1 ? 4 : mode == Mode.RICH ? chosen % 16 / 11
+                : mode == Mode.FAR ? chosen % 12 / 11 : chosen % 4;
     }
 
     private char letter(String name) {
@@ -139,7 +154,7 @@ public final class AgreementTest {
             case "make":
                 return 1 + next(isWild ? 6 : 2);
             case "shift":
-                return spread(isWild ? 6 : 1);
+                return mode == Mode.FAR ? course(place - 1) : spread(isWild ? 6 : 1);
             case "sum", "mirror", "areAlike":
                 return shelf();
             case "cut":
