@@ -754,6 +754,9 @@ public final class PromiseTest extends Checks {
         due(5, bench.shadow(0, 'y'));
         due(4, bench.shadow(0, 'x'));
         due(4, bench.shadow(0, 'z'));
+        shadowsOfPyramids();
+        start(23);
+        bench.make(0, 'o', 1);
         makeHexagon();
         due(6, bench.shadow(1, 'z'));
         due(4, bench.shadow(1, 'x'));
@@ -762,6 +765,37 @@ public final class PromiseTest extends Checks {
             refused(KIND, () -> bench.shadow(0, axis));
         }
         refused(FLAT, () -> bench.shadow(2, 'w'));
+    }
+
+    /** A corner that is in the middle of a side of the shadow, or behind another corner, is no corner of it. */
+    private static void shadowsOfPyramids() {
+        for (int way = 0; way < 24; way++) {
+            int axis = way % 3;
+            int out = way / 3 % 2 == 0 ? 3 : -3;
+            int up = way / 6 % 2 == 0 ? 3 : -3;
+            int side = way / 12 == 0 ? 1 : 2;
+            start(23);
+            addTurned(axis, side, out, 0, 0);
+            addTurned(axis, side, 0, 0, 2);
+            addTurned(axis, side, 0, 0, -2);
+            addTurned(axis, side, 0, up, 0);
+            due(3, bench.dimension(0));
+            due(3, bench.shadow(0, "xyz".charAt(axis)));
+            addTurned(axis, side, -out, up, 0);
+            due(3, bench.shadow(0, "xyz".charAt(axis)));
+            addTurned(axis, side, -out, 0, 1);
+            due(3, bench.shadow(0, "xyz".charAt(axis)));
+            due(6, bench.corners(0));
+        }
+    }
+
+    /** Adds a point of which the first number is that of an axis, and the second that of an axis beside it. */
+    private static void addTurned(int axis, int side, int first, int second, int third) {
+        int[] p = new int[3];
+        p[axis] = first;
+        p[(axis + side) % 3] = second;
+        p[(axis + 2 * side) % 3] = third;
+        bench.addPoint(0, p[0], p[1], p[2]);
     }
 
     private static void makeHexagon() {
