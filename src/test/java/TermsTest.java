@@ -343,7 +343,8 @@ public final class TermsTest extends Checks {
             int axis = side % 3;
             int sign = side / 3 % 2 == 0 ? 1 : -1;
             int most = side < 6 ? 2000 : 2001;
-            start("None of the numbers of a point is beyond 2000 either way: mirror", x -> makeSteep(x, axis, sign, most));
+            start("None of the numbers of a point is beyond 2000 either way: mirror",
+                    x -> makeSteep(x, axis, sign, most));
             due(2, bench.has(0, 0, 0, 0));
             due(1, wallsWith("abc".charAt(axis), most * sign));
             if (most == 2000) {
@@ -778,7 +779,6 @@ public final class TermsTest extends Checks {
         bench.shift(0, 0, -2, 0);
         due(3, bench.addPoint(0, 2, 0, 0));
         due(4, bench.addPoint(0, 2, 1, 0));
-        due(2, bench.addPoint(1, 2, 1, 0) + 1);
         due(3, bench.dimension(0));
         due(2, countOf(0, 'w', 2));
     }
@@ -970,7 +970,7 @@ public final class TermsTest extends Checks {
 
     private static void boxRounded() {
         // Twice the ends along an axis: 100 whole numbers in the box, and 101; with 7 and 100 along the others.
-        int[][] ends = {{-98, 98, 99, 99}, {-99, 98, 99, 100}, {-98, 99, 99, 100}, {-97, 99, 98, 99},
+        int[][] ends = {{-98, 98, 99, 99}, {-99, 98, 99, 100}, {-98, 99, 99, 100}, {-97, 99, 98, 100},
             {-99, 99, 99, 101}};
         for (int[] end : ends) {
             for (int axis = 0; axis < 3; axis++) {
