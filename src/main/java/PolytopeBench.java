@@ -356,7 +356,8 @@ public final class PolytopeBench {
             throw new NoSuchElementException("the body is not whole");
         }
         checkBox(body, 3);
-        return (int) sixfoldCoefficient(body, power);
+        box.countAll(body);
+        return (int) box.sixfold(power);
     }
 
     public boolean isReflexive(int shelf) throws IndexOutOfBoundsException, UnsupportedOperationException {
@@ -404,7 +405,7 @@ public final class PolytopeBench {
         Body body = solid(shelf);
         checkAxis(axis);
         Points points = body.points;
-        long[] numbers = axis == 'x' ? points.x : axis == 'y' ? points.y : points.z;
+        long[] numbers = points.row(axis - 'x');
         double total = 0;
         for (int i = 0; i < body.corners; i++) {
             if (points.w[i] != 0) {
@@ -646,23 +647,6 @@ public final class PolytopeBench {
 
     // Counting, volumes and soundness.
 
-    /** Returns a coefficient of the polynomial through the counts for k of 0 to 3, by their differences. */
-    private long sixfoldCoefficient(Body body, int power) {
-        if (power == 0) {
-            return 6;
-        }
-        long one = box.pointsIn(body, 1, false);
-        long two = box.pointsIn(body, 2, false);
-        long three = box.pointsIn(body, 3, false);
-        long first = one - 1;
-        long second = two - 2 * one + 1;
-        long third = three - 3 * two + 3 * one - 1;
-        if (power == 1) {
-            return 6 * first - 3 * second + 2 * third;
-        }
-        return power == 2 ? 3 * second - 3 * third : third;
-    }
-
     private static long partOf(long sixfold, long scale, char part) {
         long cube = scale * scale * scale;
         long divisor = gcd(sixfold, cube);
@@ -709,11 +693,8 @@ public final class PolytopeBench {
         if (!body.isWhole() || box.size() > MOST_BOX) {
             return true;
         }
-        long atMinusOne = 0;
-        for (int power = 0; power <= 3; power++) {
-            long term = sixfoldCoefficient(body, power);
-            atMinusOne += power % 2 == 0 ? term : -term;
-        }
+        box.countAll(body);
+        long atMinusOne = box.sixfold(0) - box.sixfold(1) + box.sixfold(2) - box.sixfold(3);
         return 6 * box.pointsIn(body, 1, true) == -atMinusOne;
     }
 
@@ -806,6 +787,11 @@ public final class PolytopeBench {
             swapIn(y, i, j);
             swapIn(z, i, j);
             swapIn(w, i, j);
+        }
+
+        /** Returns the numbers along an axis of 0 to 2. */
+        long[] row(int axis) {
+            return axis == 0 ? x : axis == 1 ? y : z;
         }
 
         void copy(Points from) {
@@ -928,6 +914,11 @@ public final class PolytopeBench {
             Points.swapIn(c, u, v);
             Points.swapIn(d, u, v);
             Points.swapIn(on, u, v);
+        }
+
+        /** Returns the numbers that go with an axis of 0 to 2. */
+        long[] row(int axis) {
+            return axis == 0 ? a : axis == 1 ? b : c;
         }
 
         void copy(Walls from) {
@@ -1297,12 +1288,11 @@ public final class PolytopeBench {
         /** Finds, for each flag, the one with the other edge at the same end of the same wall. */
         private void findTurns(Edges edges, int[] found) {
             for (int flag = 0; flag < 4 * edges.count; flag++) {
+                int end = endOf(edges, flag);
+                int wall = wallOf(edges, flag);
                 found[flag] = -1;
-                for (int e = 0; e < edges.count; e++) {
-                    int turned = flagOf(edges, e, endOf(edges, flag), wallOf(edges, flag));
-                    if (e != flag / 4 && turned >= 0) {
-                        found[flag] = turned;
-                    }
+                for (int e = 0; e < edges.count && found[flag] < 0; e++) {
+                    found[flag] = e == flag / 4 ? -1 : flagOf(edges, e, end, wall);
                 }
             }
         }
@@ -1328,7 +1318,7 @@ public final class PolytopeBench {
             }
             waiting = 0;
             boolean isGood = isMatched(0, to);
-            for (int at = 0; at < waiting && isGood; at++) {
+            for (int at = 0; at < flags && at < waiting && isGood; at++) {
                 int flag = queue[at];
                 int there = image[flag];
                 isGood = isMatched(flag ^ 1, there ^ 1) && isMatched(flag ^ 2, there ^ 2)
@@ -1351,22 +1341,20 @@ public final class PolytopeBench {
         }
     }
 
-    /** The least box of whole numbers around a body that is made greater, and the whole points of the body in it. */
+    /**
+     * The least box of whole numbers around a body that is made greater, the whole points of the body in it, and the
+     * polynomial that tells them. Axes are told by 0 to 2.
+     */
     private static final class Box {
-        private long lowX;
-        private long lowY;
-        private long lowZ;
-        private long highX;
-        private long highY;
-        private long highZ;
+        private final long[] low = new long[3];
+        private final long[] high = new long[3];
+        private final long[] counts = new long[4];
 
         void stretch(Body body, int k) {
-            lowX = lowest(body, body.points.x, k);
-            lowY = lowest(body, body.points.y, k);
-            lowZ = lowest(body, body.points.z, k);
-            highX = -lowest(body, body.points.x, -k);
-            highY = -lowest(body, body.points.y, -k);
-            highZ = -lowest(body, body.points.z, -k);
+            for (int axis = 0; axis < 3; axis++) {
+                low[axis] = lowest(body, body.points.row(axis), k);
+                high[axis] = -lowest(body, body.points.row(axis), -k);
+            }
         }
 
         /** Returns the least of k times a number of the corners, rounded down. */
@@ -1380,37 +1368,72 @@ public final class PolytopeBench {
             return least;
         }
 
-        long size() {
-            return (highX - lowX + 1) * (highY - lowY + 1) * (highZ - lowZ + 1);
+        private long side(int axis) {
+            return high[axis] - low[axis] + 1;
         }
 
+        long size() {
+            return side(0) * side(1) * side(2);
+        }
+
+        /** Counts by columns along the longest side of the box: so they are few. */
         long pointsIn(Body body, int k, boolean isInner) {
             stretch(body, k);
+            int along = side(0) > side(1) ? 0 : 1;
+            along = side(2) > side(along) ? 2 : along;
+            int one = (along + 1) % 3;
+            int other = (along + 2) % 3;
             long found = 0;
-            for (long x = lowX; x <= highX; x++) {
-                for (long y = lowY; y <= highY; y++) {
-                    found += pointsAt(body.walls, k, isInner, x, y);
+            for (long u = low[one]; u <= high[one]; u++) {
+                for (long v = low[other]; v <= high[other]; v++) {
+                    found += pointsAt(body.walls, along, k, isInner, u, v);
                 }
             }
             return found;
         }
 
         /** Counts the whole points of a column, which is cut by each wall from above or from below. */
-        private long pointsAt(Walls walls, int k, boolean isInner, long x, long y) {
-            long low = lowZ;
-            long high = highZ;
-            for (int u = 0; u < walls.count && low <= high; u++) {
-                long c = walls.c[u];
-                long most = walls.d[u] * k - walls.a[u] * x - walls.b[u] * y - (isInner ? 1 : 0);
-                if (c > 0) {
-                    high = Math.min(high, Math.floorDiv(most, c));
-                } else if (c < 0) {
-                    low = Math.max(low, -Math.floorDiv(most, -c));
+        private long pointsAt(Walls walls, int along, int k, boolean isInner, long u, long v) {
+            long[] rise = walls.row(along);
+            long[] one = walls.row((along + 1) % 3);
+            long[] other = walls.row((along + 2) % 3);
+            long from = low[along];
+            long to = high[along];
+            for (int i = 0; i < walls.count && from <= to; i++) {
+                long most = walls.d[i] * k - one[i] * u - other[i] * v - (isInner ? 1 : 0);
+                if (rise[i] > 0) {
+                    to = Math.min(to, Math.floorDiv(most, rise[i]));
+                } else if (rise[i] < 0) {
+                    from = Math.max(from, -Math.floorDiv(most, -rise[i]));
                 } else if (most < 0) {
-                    high = low - 1;
+                    to = from - 1;
                 }
             }
-            return Math.max(0, high - low + 1);
+            return Math.max(0, to - from + 1);
+        }
+
+        /** Counts the whole points of a body made 0 to 3 times as great, which tell the polynomial. */
+        void countAll(Body body) {
+            for (int k = 0; k < counts.length; k++) {
+                counts[k] = pointsIn(body, k, false);
+            }
+        }
+
+        /** Returns 6 times a coefficient of the polynomial of the body counted last, by the counts' differences. */
+        long sixfold(int power) {
+            long first = counts[1] - counts[0];
+            long second = counts[2] - 2 * counts[1] + counts[0];
+            long third = counts[3] - 3 * counts[2] + 3 * counts[1] - counts[0];
+            switch (power) {
+                case 0:
+                    return 6 * counts[0];
+                case 1:
+                    return 6 * first - 3 * second + 2 * third;
+                case 2:
+                    return 3 * second - 3 * third;
+                default:
+                    return third;
+            }
         }
     }
 

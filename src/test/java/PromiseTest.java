@@ -38,6 +38,7 @@ public final class PromiseTest extends Checks {
         meanDegree();
         middle();
         isSound();
+        readme();
         finish("PromiseTest");
     }
 
@@ -1126,6 +1127,24 @@ public final class PromiseTest extends Checks {
         bench.addPoint(3, 1, 2, 1);
         due(true, bench.isSound());
         bench.sum(2, 2, 2);
+        due(true, bench.isSound());
+    }
+
+    private static void readme() {
+        start("the example of README.md");
+        due(8, bench.make(0, 'c', 1));
+        due(6, bench.mirror(1, 0));
+        due(false, bench.areAlike(0, 1));
+        due(10, bench.cut(2, 0, 1, 1, 1, 2));
+        due(7, bench.walls(2));
+        due(2, bench.wall(2, 6, 'd'));
+        due(1, bench.corner(2, 9, 'y'));
+        due(26, bench.count(2, 1));
+        due(47L, bench.volume(2, 'n'));
+        due(1L, bench.volume(2, 'd'));
+        due(1, bench.addPoint(3, 1, 2, 3));
+        due(0, bench.dimension(3));
+        refused(FLAT, () -> bench.walls(3));
         due(true, bench.isSound());
     }
 }
